@@ -708,11 +708,7 @@ public final class TableHouse {
             for (int i = 0; i < MAX_BYTES && isLetter(text.at(at)); i++) {
                 at++;
             }
-            kind = kindOfWord();
-        }
-
-        private int kindOfWord() {
-            return isWord("x") ? X
+            kind = isWord("x") ? X
                     : isWord("root") ? ROOT
                     : isWord("cut") ? CUT
                     : isWord("least") ? LEAST

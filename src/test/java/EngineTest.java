@@ -175,6 +175,10 @@ public final class EngineTest {
         TableHouse x = Check.house("x*10000+49997", 0, 4, 4);
         Check.due("exact", x.exact(0, 0), 499970000);
         Check.due("all but the first by hand", x.settings(0, 99), 120);
+        TableHouse y = Check.house("499999*1000+998+x", 0, 4, 0);
+        y.engine(0, 0, 1);
+        Check.due("just below the half", y.turn(1), 499999999);
+        Check.due("the half", y.turn(1), -500000000);
         TableHouse z = Check.house("49999+x/2", -1, 6, 4);
         Check.due("exact", z.exact(0, 2), 499995000);
         Check.due("exact", z.exact(0, 3), 500000000);

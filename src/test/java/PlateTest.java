@@ -52,6 +52,14 @@ public final class PlateTest {
         Check.due("one isn't agreed", y.set(0), NONE);
         y.work(1, 1, 0, 3);
         Check.due("now all are", y.set(0), 4);
+        TableHouse w = Check.house("x", 0, 4, 0);
+        w.hand();
+        w.hand();
+        for (int i = 1; i < 4; i++) {
+            w.work(0, 0, 0, i);
+            w.work(1, 1, 0, i);
+        }
+        Check.due("the first isn't agreed", w.set(0), NONE);
         TableHouse z = Check.house("1/0", 0, 4, 0);
         Check.due("without figures", z.set(0), 0);
         Check.due("read of it", z.read(0, 0), VOID);
@@ -315,6 +323,13 @@ public final class PlateTest {
             x.rival(0, i, i < 2 ? 500 + i : i);
         }
         Check.due("3 of 300 is one of 100", x.copied(0), 0);
+        TableHouse y = falseOnes(26, 2);
+        for (int i = 0; i < 26; i++) {
+            y.rival(0, i, i < 2 ? 500 + i : i == 25 ? 0 : i);
+        }
+        Check.due("24 of 2600", y.copied(0), 1);
+        y.rival(0, 24, VOID);
+        Check.due("23 of 2300 is one of 100", y.copied(0), 0);
     }
 
     private static void leads() {

@@ -115,6 +115,8 @@ public final class RowTest {
         Check.due("asked again", y.rivals(3, 0), 4844);
         Check.due("all threes but one", y.rivals(2, 0), 1139);
         Check.due("suspects asked behind", y.suspects(3, 0), 0xffff0);
+        Check.due("all but the first", y.suspects(0, 0), 0xffffe);
+        Check.due("all ones but one", y.rivals(0, 0), 19);
     }
 
     private static void gapsInCurves() {

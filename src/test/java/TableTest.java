@@ -82,6 +82,9 @@ public final class TableTest {
         Check.due("10 to 9", x.exact(3, 2), VOID);
         Check.due("table", x.table(2, -998, 1001, 41), 4);
         Check.due("-998000000", x.exact(4, 0), -998000000);
+        Check.due("the greatest", Check.house("999999*1000+999", 0, 4, 0).exact(0, 0), 999999999);
+        Check.due("the least", Check.house("-999999*1000-999", 0, 4, 0).exact(0, 0), -999999999);
+        Check.due("beyond it", Check.house("-999999*1000-1000", 0, 4, 0).exact(0, 0), VOID);
     }
 
     private static void habits() {
@@ -247,5 +250,17 @@ public final class TableTest {
         }
         z.habit(1, 2, 45);
         pair(z, 0, 0, 0, 1, 2, 0, 3);
+        TableHouse u = Check.house("x", 1, 4, 0);
+        u.hand();
+        u.hand();
+        u.habit(0, 0, 12);
+        pair(u, 0, 0, 1, 1, 0, 0, 4);
+        TableHouse v = Check.house("x", 0, 30, 0);
+        v.hand();
+        v.hand();
+        for (int i = 0; i < 6; i++) {
+            v.habit(i % 2, i % 3, 801);
+        }
+        pair(v, 0, 0, 0, 1, 1, 30, 0);
     }
 }

@@ -85,6 +85,8 @@ public final class TextTest {
         Check.fault("1 2", 2);
         Check.fault("1.5", 1);
         Check.fault("then", 0);
+        Check.fault("xz", 0);
+        Check.fault("x+az", 2);
         Check.fault("else", 0);
     }
 
@@ -118,6 +120,16 @@ public final class TextTest {
         Check.fault("if x<1 then 1", 13);
         Check.fault("if x<1 then 1 else", 18);
         Check.fault("if x<1 then 1 then 2", 14);
+        Check.fault("if", 2);
+        Check.fault("if x", 4);
+        Check.fault("if x<", 5);
+        Check.fault("if x<1", 6);
+        Check.fault("if x<1 then", 11);
+        Check.fault("(", 1);
+        Check.fault("-", 1);
+        Check.fault("least(", 6);
+        Check.fault("least(x", 7);
+        Check.fault("least(x,", 8);
         Check.fault("if x<1=1 then 1 else 2", 6);
         Check.fault("if x+1=x*2 then x-1 else x/2*3", NONE);
         Check.fault("if if x<1 then 1 else 2>1 then if x=1 then 1 else 2 else 3", NONE);
@@ -208,6 +220,8 @@ public final class TextTest {
         Check.value("most(x, 2/3)", 3, 4, 3, 4);
         Check.value("least(-x, x)", 3, 4, -3, 4);
         Check.value("most(x, x)", 3, 4, 3, 4);
+        Check.value("least(x, 4)", 7, 2, 7, 2);
+        Check.value("most(x, 4)", 7, 2, 4, 1);
         Check.value("cut x", 7, 2, 3, 1);
         Check.value("cut x", -7, 2, -4, 1);
         Check.value("cut -x", 4, 2, -2, 1);
