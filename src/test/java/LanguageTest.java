@@ -17,6 +17,10 @@ public final class LanguageTest {
             "engine", "stick", "turn", "column", "settings", "row", "lay", "clear", "suspects", "rivals", "middle", "bound", "set",
             "hard", "print", "mend", "read", "erratum", "misses", "known", "rival", "shared", "copied", "lead", "count");
 
+    private static final Set<String> LIBRARY = Set.of(
+            "Math.max", "Math.min", "Math.abs", "Math.floorDiv", "Math.floorMod", "Integer.bitCount", "Integer.compare", "Long.compare",
+            "Arrays.copyOf", "Arrays.copyOfRange", "Arrays.fill", "System.arraycopy");
+
     public static void main(String[] args) throws IOException {
         String source = Files.readString(Path.of("src/main/java/TableHouse.java"));
         Check.due("signs beyond 127", source.chars().filter(c -> c > 127).count(), 0);
@@ -40,6 +44,10 @@ public final class LanguageTest {
         Matcher imports = Pattern.compile("import ([^;]*);").matcher(bare);
         while (imports.find()) {
             Check.due("import " + imports.group(1), Set.of("java.util.Arrays", "java.util.ArrayList", "java.util.List").contains(imports.group(1)), true);
+        }
+        Matcher library = Pattern.compile("\\b(Math|Integer|Long|Arrays|System|String|List|Character|Boolean)\\.(\\w+)").matcher(bare);
+        while (library.find()) {
+            Check.due("library " + library.group(), LIBRARY.contains(library.group()), true);
         }
         Matcher classes = Pattern.compile("\\bclass \\w+").matcher(bare);
         int many = 0;
