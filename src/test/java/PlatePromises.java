@@ -213,6 +213,7 @@ final class PlatePromises {
         rivals(falseOnes(Run.of(38, words), 8, 1), 0, 0, 500).due("copied(0)", 0).tell("rival(0, 0, VOID)").due("copied(0)", 0);
         rivals(rivals(falseOnes(Run.of(38, words), 22, 4), 0, 2, 500), 3, 20, 0).tell("rival(0, 21, 0)").due("copied(0)", 1);
         rivals(rivals(falseOnes(Run.of(38, words), 22, 13), 0, 6, 500), 7, 21, 0).due("copied(0)", 0);
+        rivals(rivals(falseOnes(Run.of(38, words), 24, 7), 0, 13, 500), 14, 23, 0).due("shared(0)", 7).due("copied(0)", 1).tell("rival(0, 13, 13)", "rival(0, 6, 6)").due("copied(0)", 0);
     }
 
     private static void promise39() {

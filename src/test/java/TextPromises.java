@@ -17,6 +17,7 @@ final class TextPromises {
         promise5();
         promise6();
         promise6Fractions();
+        promise6None();
         promise6Roots();
         promise6Choices();
     }
@@ -214,6 +215,27 @@ final class TextPromises {
                 .noValue("x/1001*1001", 1, 1000000).noValue("1/x", 0, 1).noValue("0/x", 0, 1).noValue("x/(x-x)", 5, 1)
                 .noValue("0*(1/x)", 0, 1).noValue("1/x+1", 0, 1).noValue("1-1/x", 0, 1).noValue("1/(1/x)", 0, 1).noValue("(1/x)/2", 0, 1)
                 .noValue("-(1/x)", 0, 1).noValue("cut(1/x)", 0, 1).noValue("root(1/x)", 0, 1).noValue("1/x-1/x", 0, 1);
+    }
+
+    /** Whatever NONE comes of, and whatever it goes into, NONE comes out; at x 0. */
+    private static void promise6None() {
+        String[] nones = {
+            "(1/x)", "root(x-1)", "(999999*999999)", "(1/999999/999999)", "cut(1/x)", "least(1,1/x)", "most(1/x,1)", "(0-1000*1000*1000-1)",
+            "(if 1/x<1 then 1 else 2)", "(if 1=1/x then 1 else 2)", "(if x=0 then 1/x else 1)", "(if x>0 then 1 else 1/x)", "(-(1/x))",
+        };
+        String[] into = {
+            "?+1", "1+?", "?-1", "1-?", "?*0", "0*?", "?/1", "1/?", "0/?", "-?", "root ?", "cut ?", "least(?,1)", "least(1,?)", "most(?,1)", "most(1,?)",
+            "if ?<1 then 1 else 2", "if 1>? then 1 else 2", "if ?=? then 1 else 2", "if x=0 then ? else 1", "if x=1 then 1 else ?", "5-2*?", "?-?", "?/?",
+        };
+        Run x = Run.of(6, "What comes out beyond that, or by 0, or of NONE, is NONE.");
+        for (String none : nones) {
+            for (String text : into) {
+                x.noValue(text.replace("?", none), 0, 1);
+            }
+        }
+        for (int i = 0; i < 30; i++) {
+            Run.of(6, "(NONE compared: NONE comes out).").noValue("if 1/x<-" + i + " then 1+2 else 2+3", 0, 1).noValue("if " + i + ">1/x then 1+2 else 2+3", 0, 1);
+        }
     }
 
     private static void promise6Roots() {
