@@ -122,13 +122,18 @@ final class TextPromises {
                 .fault("root x", NONE).fault("root", 4).fault("root )", 5).fault("root -x", NONE).fault("cut 1", NONE).fault("cut", 3)
                 .fault("cut *x", 4).fault("cut root(x)", NONE)
                 .value("-x*x", 3, 1, -9, 1).value("root x*x", 4, 1, 8, 1).value("cut x*2", 7, 2, 6, 1).value("-x+x", 3, 1, 0, 1);
-        Run.of(4, "least ( E , E ), most ( E , E ),").fault("least(x,1)", NONE).fault("most ( x , 1 )", NONE).fault("least", 5).fault("least x", 6)
-                .fault("least(", 6).fault("least(x", 7).fault("least(x)", 7).fault("least(x,", 8).fault("least(x,1", 9).fault("least(x,1,2)", 9)
+        Run.of(4, "least ( E , E ), most ( E , E ),").fault("least(x,1)", NONE).fault("most ( x , 1 )", NONE).fault("least", 5)
+                .fault("least x", 6)
+                .fault("least(", 6).fault("least(x", 7).fault("least(x)", 7).fault("least(x,", 8).fault("least(x,1", 9)
+                .fault("least(x,1,2)", 9)
                 .fault("most(,1)", 5).fault("most(x,)", 7).fault("most(x 1)", 7).fault("least(x+1,x*2)", NONE);
-        Run.of(4, "or if E C E then E else E, where C is <, > or =.").fault("if x<1 then 1 else 2", NONE).fault("if x>1 then 1 else 2", NONE)
-                .fault("if x=1 then 1 else 2", NONE).fault("if x,1 then 1 else 2", 4).fault("if x then 1 else 2", 5).fault("if x<=1 then 1 else 2", 5)
+        Run.of(4, "or if E C E then E else E, where C is <, > or =.").fault("if x<1 then 1 else 2", NONE)
+                .fault("if x>1 then 1 else 2", NONE)
+                .fault("if x=1 then 1 else 2", NONE).fault("if x,1 then 1 else 2", 4).fault("if x then 1 else 2", 5)
+                .fault("if x<=1 then 1 else 2", 5)
                 .fault("if x<1=1 then 1 else 2", 6).fault("if x<1 else 2", 7).fault("if x<1 then 1 then 2", 14)
-                .fault("if then 1 else 2", 3).fault("if x<then 1 else 2", 5).fault("if x<1 then else 2", 12).fault("if x<1 then 1 else else", 19)
+                .fault("if then 1 else 2", 3).fault("if x<then 1 else 2", 5).fault("if x<1 then else 2", 12)
+                .fault("if x<1 then 1 else else", 19)
                 .fault("(if x<1 then 1 else 2)*3", NONE);
     }
 
@@ -155,11 +160,14 @@ final class TextPromises {
 
     private static void promise4Places() {
         Run.of(4, "The FAULT is the place (from 0 on) of the first byte of the first TOKEN that can't stand there")
-                .fault(")", 0).fault("  )", 2).fault("x )", 2).fault("x + then", 4).fault("x+1 else", 4).fault("x root x", 2).fault("x + ) )", 4)
+                .fault(")", 0).fault("  )", 2).fault("x )", 2).fault("x + then", 4).fault("x+1 else", 4).fault("x root x", 2)
+                .fault("x + ) )", 4)
                 .fault(times("x+", 99) + ")", 198).fault(times("x+", 99) + "x)", 199);
-        Run.of(4, "(also: a number too great, what opens too deep)").fault("x + 1000000", 4).fault("1000000 )", 0).fault(times("(", 10) + "  (x", 12)
+        Run.of(4, "(also: a number too great, what opens too deep)").fault("x + 1000000", 4).fault("1000000 )", 0)
+                .fault(times("(", 10) + "  (x", 12)
                 .fault(times("(", 10) + "root x", 10).fault("x 1000000", 2);
-        Run.of(4, "or of a byte that begins no TOKEN, if that is ahead;").fault("?", 0).fault("x ?", 2).fault("x + ? )", 4).fault("x ) ?", 2)
+        Run.of(4, "or of a byte that begins no TOKEN, if that is ahead;").fault("?", 0).fault("x ?", 2).fault("x + ? )", 4)
+                .fault("x ) ?", 2)
                 .fault("x ? )", 2).fault("x+ 1000000 ?", 3).fault("x+?1000000", 2).fault("(?", 1).fault("1.5", 1).fault("x+ ?", 3);
         Run.of(4, "the length, if it ends too early;").fault("", 0).fault("   ", 3).fault("x+", 2).fault("x+  ", 4).fault("(x ", 3)
                 .fault("if", 2).fault("if x", 4).fault("if x<", 5).fault("if x<1", 6).fault("if x<1 then", 11).fault("if x<1 then 1", 13)
@@ -186,13 +194,16 @@ final class TextPromises {
     }
 
     private static void promise6() {
-        Run.of(6, "The function of a SHEET of x, n by d (d 1 .. 1000000)").sheet("x").due("value(0, 7, 1, 0)", 7).due("value(0, 7, 1, 1)", 1)
+        Run.of(6, "The function of a SHEET of x, n by d (d 1 .. 1000000)").sheet("x").due("value(0, 7, 1, 0)", 7)
+                .due("value(0, 7, 1, 1)", 1)
                 .due("value(0, 7, 1000000, 0)", 7).due("value(0, 7, 1000000, 1)", 1000000)
-                .refused("value(0, 7, 0, 0)", "value(0, 7, 1000001, 0)", "value(0, 7, -1, 0)", "value(0, 0, 0, 1)", "value(0, 1000001, 1000001, 0)",
+                .refused("value(0, 7, 0, 0)", "value(0, 7, 1000001, 0)", "value(0, 7, -1, 0)", "value(0, 0, 0, 1)",
+                        "value(0, 1000001, 1000001, 0)",
                         "value(0, 7, LEAST, 0)", "value(0, 7, GREATEST, 1)");
         Run.of(6, "its n (what 0) or d (1)").sheet("x/3").due("value(0, 5, 2, 0)", 5).due("value(0, 5, 2, 1)", 6);
         Run.of(6, "VOID if it or x is NONE, there is none such, or of others.").sheet("1/x").sheet("7")
-                .refused("value(0, 0, 1, 0)", "value(0, 0, 1, 1)").due("value(1, 1000000000, 1, 0)", 7).due("value(1, -1000000000, 1, 0)", 7)
+                .refused("value(0, 0, 1, 0)", "value(0, 0, 1, 1)").due("value(1, 1000000000, 1, 0)", 7)
+                .due("value(1, -1000000000, 1, 0)", 7)
                 .refused("value(1, 1000000001, 1, 0)", "value(1, -1000000001, 1, 0)", "value(1, GREATEST, 1, 0)", "value(1, LEAST, 1, 1)")
                 .due("value(1, 2000000000, 2, 0)", 7).due("value(1, LEAST, 4, 0)", 7)
                 .refused("value(2, 1, 1, 0)", "value(-1, 1, 1, 0)", "value(LEAST, 1, 1, 0)", "value(GREATEST, 1, 1, 0)")
@@ -200,18 +211,25 @@ final class TextPromises {
     }
 
     private static void promise6Fractions() {
-        Run.of(6, "FRACTIONS are n by d, without a common divisor, d above 0,").value("x", 6, 4, 3, 2).value("x", -6, 4, -3, 2).value("x", 0, 7, 0, 1)
-                .value("1/-x", 2, 1, -1, 2).value("1/x", -2, 3, -3, 2).value("1/2+1/6", 0, 1, 2, 3).value("x*2", 1, 2, 1, 1).value("x-x", 5, 3, 0, 1);
+        Run.of(6, "FRACTIONS are n by d, without a common divisor, d above 0,").value("x", 6, 4, 3, 2).value("x", -6, 4, -3, 2)
+                .value("x", 0, 7, 0, 1)
+                .value("1/-x", 2, 1, -1, 2).value("1/x", -2, 3, -3, 2).value("1/2+1/6", 0, 1, 2, 3).value("x*2", 1, 2, 1, 1)
+                .value("x-x", 5, 3, 0, 1);
         Run.of(6, "n from -1000000000 to 1000000000,").value("x", 1000000000, 1, 1000000000, 1).value("x", -1000000000, 1, -1000000000, 1)
-                .noValue("x", 1000000001, 1).noValue("x", -1000000001, 1).value("x*1000", 1000000, 1, 1000000000, 1).noValue("x*1000+1", 1000000, 1)
+                .noValue("x", 1000000001, 1).noValue("x", -1000000001, 1).value("x*1000", 1000000, 1, 1000000000, 1)
+                .noValue("x*1000+1", 1000000, 1)
                 .value("-x*1000", 1000000, 1, -1000000000, 1).noValue("-x*1000-1", 1000000, 1).value("-x", -1000000000, 1, 1000000000, 1)
-                .noValue("x*x", 31623, 1).value("x*x", 31622, 1, 999950884, 1).noValue("x*x", 1000000000, 1).noValue("x/(1/x)", 1000000000, 1)
+                .noValue("x*x", 31623, 1).value("x*x", 31622, 1, 999950884, 1).noValue("x*x", 1000000000, 1)
+                .noValue("x/(1/x)", 1000000000, 1)
                 .value("x/2*2", 1000000000, 1, 1000000000, 1).noValue("x+x", 1000000000, 1).value("x-x", 1000000000, 1, 0, 1);
-        Run.of(6, "d to 1000000000;").value("x/1000", 1, 1000000, 1, 1000000000).noValue("x/1001", 1, 1000000).value("1/x", 1000000000, 1, 1, 1000000000)
-                .noValue("1/x/2", 1000000000, 1).value("1/x*2", 1000000000, 1, 1, 500000000).noValue("x*x", 1, 31623).value("x*x", 1, 31622, 1, 999950884)
+        Run.of(6, "d to 1000000000;").value("x/1000", 1, 1000000, 1, 1000000000).noValue("x/1001", 1, 1000000)
+                .value("1/x", 1000000000, 1, 1, 1000000000)
+                .noValue("1/x/2", 1000000000, 1).value("1/x*2", 1000000000, 1, 1, 500000000).noValue("x*x", 1, 31623)
+                .value("x*x", 1, 31622, 1, 999950884)
                 .noValue("x+1/1003", 1, 999999).noValue("1/x-1/(x-1)", 1000000000, 1);
         Run.of(6, "NONE is none.").noValue("1/0", 0, 1);
-        Run.of(6, "What comes out beyond that, or by 0, or of NONE, is NONE.").noValue("x*1000+1-1", 1000000, 1).noValue("x*1001/1001", 1000000, 1)
+        Run.of(6, "What comes out beyond that, or by 0, or of NONE, is NONE.").noValue("x*1000+1-1", 1000000, 1)
+                .noValue("x*1001/1001", 1000000, 1)
                 .noValue("x/1001*1001", 1, 1000000).noValue("1/x", 0, 1).noValue("0/x", 0, 1).noValue("x/(x-x)", 5, 1)
                 .noValue("0*(1/x)", 0, 1).noValue("1/x+1", 0, 1).noValue("1-1/x", 0, 1).noValue("1/(1/x)", 0, 1).noValue("(1/x)/2", 0, 1)
                 .noValue("-(1/x)", 0, 1).noValue("cut(1/x)", 0, 1).noValue("root(1/x)", 0, 1).noValue("1/x-1/x", 0, 1);
@@ -224,8 +242,10 @@ final class TextPromises {
             "(if 1/x<1 then 1 else 2)", "(if 1=1/x then 1 else 2)", "(if x=0 then 1/x else 1)", "(if x>0 then 1 else 1/x)", "(-(1/x))",
         };
         String[] into = {
-            "?+1", "1+?", "?-1", "1-?", "?*0", "0*?", "?/1", "1/?", "0/?", "-?", "root ?", "cut ?", "least(?,1)", "least(1,?)", "most(?,1)", "most(1,?)",
-            "if ?<1 then 1 else 2", "if 1>? then 1 else 2", "if ?=? then 1 else 2", "if x=0 then ? else 1", "if x=1 then 1 else ?", "5-2*?", "?-?", "?/?",
+            "?+1", "1+?", "?-1", "1-?", "?*0", "0*?", "?/1", "1/?", "0/?", "-?", "root ?", "cut ?", "least(?,1)", "least(1,?)", "most(?,1)",
+                    "most(1,?)",
+            "if ?<1 then 1 else 2", "if 1>? then 1 else 2", "if ?=? then 1 else 2", "if x=0 then ? else 1", "if x=1 then 1 else ?", "5-2*?",
+                    "?-?", "?/?",
         };
         Run x = Run.of(6, "What comes out beyond that, or by 0, or of NONE, is NONE.");
         for (String none : nones) {
@@ -234,12 +254,14 @@ final class TextPromises {
             }
         }
         for (int i = 0; i < 30; i++) {
-            Run.of(6, "(NONE compared: NONE comes out).").noValue("if 1/x<-" + i + " then 1+2 else 2+3", 0, 1).noValue("if " + i + ">1/x then 1+2 else 2+3", 0, 1);
+            Run.of(6, "(NONE compared: NONE comes out).").noValue("if 1/x<-" + i + " then 1+2 else 2+3", 0, 1)
+                    .noValue("if " + i + ">1/x then 1+2 else 2+3", 0, 1);
         }
     }
 
     private static void promise6Roots() {
-        Run.of(6, "root of n by d (0 or more; else NONE):").value("root x", 0, 1, 0, 1).noValue("root x", -1, 1000000).noValue("root x", -4, 1)
+        Run.of(6, "root of n by d (0 or more; else NONE):").value("root x", 0, 1, 0, 1).noValue("root x", -1, 1000000)
+                .noValue("root x", -4, 1)
                 .value("root x", 1, 1000000, 0, 1).noValue("root x", -1000000000, 1);
         Run.of(6, "the greatest whole number whose square isn't above n * 10000 by d, by 100.").value("root x", 2, 1, 141, 100)
                 .value("root x", 4, 1, 2, 1).value("root x", 1, 4, 1, 2).value("root x", 1, 10000, 1, 100).value("root x", 1, 10001, 0, 1)
@@ -268,11 +290,13 @@ final class TextPromises {
                 .noValue("if x<1 then 1/x else 7", 0, 1).noValue("if x>1 then 7 else 1/x", 0, 1)
                 .value("if x=0 then 7 else root(x-1)", 0, 1, 7, 1).value("3+if x=0 then 7 else 1/x", 0, 1, 10, 1);
         Run.of(6, "(NONE compared: NONE comes out).").noValue("if 1/x<0 then 1 else 2", 0, 1).noValue("if 0=1/x then 1 else 2", 0, 1)
-                .noValue("if 1/x=1/x then 1 else 2", 0, 1).noValue("7+if 1/x>0 then 1 else 2", 0, 1).noValue("if 0>root x then 1 else 2", -1, 1);
+                .noValue("if 1/x=1/x then 1 else 2", 0, 1).noValue("7+if 1/x>0 then 1 else 2", 0, 1)
+                .noValue("if 0>root x then 1 else 2", -1, 1);
         Run.of(6, "All others are worked out first, from the left.").noValue("least(1, 1/x)", 0, 1).noValue("least(1/x, 1)", 0, 1)
                 .noValue("most(1, 1/x)", 0, 1).noValue("most(1/x, 1)", 0, 1).noValue("0*(1/x)", 0, 1).noValue("x*x*0", 1000000, 1)
                 .value("0*x*x", 1000000, 1, 0, 1).noValue("x+x-x", 1000000000, 1).value("x-x+x", 1000000000, 1, 1000000000, 1)
-                .value("least(x, 2/3)", 3, 4, 2, 3).value("most(x, 2/3)", 3, 4, 3, 4).value("least(2/3, x)", 3, 4, 2, 3).value("most(x, x)", 3, 4, 3, 4)
+                .value("least(x, 2/3)", 3, 4, 2, 3).value("most(x, 2/3)", 3, 4, 3, 4).value("least(2/3, x)", 3, 4, 2, 3)
+                .value("most(x, x)", 3, 4, 3, 4)
                 .value("least(-x, x)", 1000000000, 1, -1000000000, 1).value("most(-x, x)", 1000000000, 1, 1000000000, 1)
                 .value("least(x, 1/x)", 1000000000, 1, 1, 1000000000);
     }
