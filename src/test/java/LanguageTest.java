@@ -29,6 +29,7 @@ public final class LanguageTest {
         words(bare);
         methods(bare);
         face();
+        documentFace(source);
         nested();
         Check.close();
     }
@@ -96,6 +97,23 @@ public final class LanguageTest {
         for (Constructor<?> c : TableHouse.class.getDeclaredConstructors()) {
             Check.due("public: " + c, Modifier.isPublic(c.getModifiers()) && c.getParameterCount() == 0, true);
         }
+    }
+
+    /** Each line of the document's face stands in the source as it stands there, and nothing else is public. */
+    private static void documentFace(String source) throws IOException {
+        String document = Files.readString(Path.of("../shared/DOC.md"));
+        Matcher block = Pattern.compile("(?s)```java\\n(.*?)```").matcher(document);
+        Check.due("the document has a face", block.find(), true);
+        int members = 0;
+        for (String line : block.group(1).split("\n")) {
+            boolean constant = line.contains("=");
+            boolean callable = line.endsWith(");");
+            String wanted = callable ? line.substring(0, line.length() - 1) + " {\n" : line + "\n";
+            Check.due("the source has: " + line, source.contains("\n" + wanted), true);
+            members += constant || callable ? 1 : 0;
+        }
+        long found = source.lines().filter(line -> line.startsWith("    public ")).count();
+        Check.due("public members", found, members);
     }
 
     private static void nested() {
